@@ -7,7 +7,7 @@ public final class ModelTest {
         252, 253, 255, 256, 257, Integer.MAX_VALUE};
 
     public static void main(String[] args) {
-        for (int run = 0; run < 400; run++) {
+        for (int run = 0; run < 600; run++) {
             // A fixed seed, so that a failing run can be run again.
             compare(run, new Random(1000 + run));
         }
@@ -17,8 +17,13 @@ public final class ModelTest {
     private static void compare(int run, Random random) {
         SlicedCipher x = new SlicedCipher();
         Model m = new Model();
-        int calls = 60 + random.nextInt(452);
+        // With the words told in the end no object gets more than its 512 calls.
+        int calls = 60 + random.nextInt(130);
         boolean longTape = random.nextInt(4) == 0;
+        for (int n = 0; longTape && n < 60; n++) {
+            int a = random.nextInt();
+            same("run " + run + " first put", () -> x.put(a, other(a), 1, a), () -> m.put(a, other(a), 1, a));
+        }
         for (int n = 0; n < calls; n++) {
             step(run + "." + n, x, m, random, longTape);
         }
@@ -68,6 +73,10 @@ public final class ModelTest {
             case 17 -> same(where + " seal " + small, () -> x.seal(small), () -> m.seal(small));
             default -> same(where + " put", () -> x.put(a, b, c, d), () -> m.put(a, b, c, d));
         }
+    }
+
+    private static int other(int a) {
+        return a * 31 + 7;
     }
 
     private static int number(Random random) {
