@@ -185,7 +185,7 @@ final class Model {
         return n;
     }
 
-    private static int[] boxed(int[] words, int which, boolean back) {
+    static int[] boxed(int[] words, int which, boolean back) {
         int[] made = new int[4];
         for (int place = 0; place < 32; place++) {
             int number = 0;
@@ -200,7 +200,7 @@ final class Model {
         return made;
     }
 
-    private static int[] xored(int[] x, int[] y) {
+    static int[] xored(int[] x, int[] y) {
         int[] made = new int[4];
         for (int j = 0; j < 4; j++) {
             made[j] = x[j] ^ y[j];
@@ -234,7 +234,7 @@ final class Model {
         return x;
     }
 
-    private static void mixed(int[] x) {
+    static void mixed(int[] x) {
         x[0] = turned(x[0], 13);
         x[2] = turned(x[2], 3);
         x[1] ^= x[0] ^ x[2];
