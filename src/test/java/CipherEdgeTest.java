@@ -1,6 +1,7 @@
 /** Promises 6, 7, 11 and 12, with the terms of boxes, blocks, modes, counter and seal, at their edges. */
 public final class CipherEdgeTest {
     private static final Check CHECK = new Check("CipherEdgeTest");
+    private static final String INDEX = "throws.IndexOutOfBoundsException";
     private static final String STATE = "throws.IllegalStateException";
     private static final int LOWEST = Integer.MIN_VALUE;
     private static final int HIGHEST = Integer.MAX_VALUE;
@@ -27,6 +28,7 @@ public final class CipherEdgeTest {
         sealAtEveryLength();
         sealStartsWith0();
         sealLeavesTheRest();
+        answersLeaveTheRest();
         lastOfAllCalls();
         CHECK.end();
     }
@@ -289,16 +291,40 @@ public final class CipherEdgeTest {
         }
     }
 
-    /** Terms: "the tape stays". */
+    /** Terms: "the tape stays". So do the start and the round keys. */
     private static void sealLeavesTheRest() {
-        for (int words : new int[] {0, 4, 8, 256}) {
-            SlicedCipher x = Given.tape(Given.ready(32), words);
+        for (int blocks : new int[] {0, 1, 2, 64}) {
+            SlicedCipher x = Given.tape(Given.ready(32), 4 * blocks);
             for (int j = 0; j < 4; j++) {
                 x.seal(j);
             }
-            CHECK.dueText("12: the rest, with " + words + " words", Look.atAll(x),
-                    Look.atAll(Given.tape(Given.ready(32), words)));
+            allIsAsGiven("12: after the seal of " + blocks, x, blocks);
         }
+    }
+
+    /** Calls that answer alone change nothing: round, box and word at their ends. */
+    private static void answersLeaveTheRest() {
+        for (int blocks : new int[] {1, 2, 64}) {
+            SlicedCipher x = Given.tape(Given.ready(32), 4 * blocks);
+            x.round(0, 0);
+            x.round(32, 3);
+            x.box(0, 0, false);
+            x.box(7, 15, true);
+            x.word(0);
+            x.word(4 * blocks - 1);
+            allIsAsGiven("5, 6, 10: after answers, with " + blocks, x, blocks);
+        }
+    }
+
+    /** Looked at by what is due, not by another object, which the looking could change alike. */
+    private static void allIsAsGiven(String what, SlicedCipher x, int blocks) {
+        x.run(2, false);
+        for (int i = 0; i < blocks; i++) {
+            int[] count = startBlock();
+            count[0] += i;
+            sameBlock(what + ", counted", x, i, Model.xored(tapeBlock(i), enciphered(count)));
+        }
+        CHECK.dueText(what + ", behind the tape", Check.outcome(() -> x.word(4 * blocks)), INDEX);
     }
 
     /** "An object is used for at most 512 calls": the last of them still answers. */

@@ -64,7 +64,7 @@ public final class PromiseTest {
             CHECK.due("2: word " + i + " counts", y.round(32, 3) == x.round(32, 3) ? 1 : 0, 0);
         }
         SlicedCipher same = readied(32);
-        same.key(0, 0);
+        same.key(0, filledWord(0));
         CHECK.throwsDue("2: the same word told again", STATE, () -> same.run(0, false));
     }
 
